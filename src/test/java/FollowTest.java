@@ -15,6 +15,7 @@ public final class FollowTest {
         addresses();
         labelsBeforeAddresses();
         computesAsTheWordsDo();
+        beginsAnewEachTime();
         hostAnswers();
         takesAllInputsAgain();
         leavesTheSandboxesAlone();
@@ -252,6 +253,20 @@ public final class FollowTest {
             doubling[4 * n + 3] = n == 0 ? 1 << 20 : -1;
         }
         check.same("sums wrap", resultOf(doubling), Integer.MAX_VALUE);
+    }
+
+    private static void beginsAnewEachTime() {
+        FencedModules x = Check.withLines(Check.COPY, 1, 3, 0, Check.HOST, 0, 0, Check.OUT, Check.LOAD, 1, 4, 15, Check.HOST, 0, 0, Check.OUT,
+            Check.SET, 3, 0, 7, Check.STORE, 3, 4, 15, Check.LABEL, 2, 0, 0, Check.STORE, 2, 4, 3);
+        x.mark(0);
+        for (int again = 0; again < 3; again++) {
+            check.same("follow", x.follow(again, 300), 2);
+            check.same("r3 is 0 at first", x.trace(0, 1), 0);
+            check.same("word 15 is 0 at first", x.trace(1, 1), 0);
+        }
+        x.clear();
+        Check.lines(x, Check.ADD, 1, 2, 0, Check.LOAD, 1, 4, 3, Check.ADD, 1, 1, 0);
+        ends("no labels at first", x, 3, 2);
     }
 
     private static void answer(String what, int due, int number, int r1, int r2) {

@@ -75,8 +75,8 @@ public final class HostTest {
         for (int size : new int[] {17, 0, -1, Check.LEAST_I, Check.MOST_I}) {
             check.same("ALLOC " + size, asked(0, Check.ALLOC, size, 1).register(0, 1), -1);
         }
-        int[] sizes = {4, 0, 5, 8, 7, 1, -3};
-        int[] due = {0, -1, 4, -1, 9, -1, -1};
+        int[] sizes = {4, 0, 5, 8, 6, 2, 1, 1, -3};
+        int[] due = {0, -1, 4, -1, 9, -1, 15, -1, -1};
         FencedModules y = new FencedModules();
         for (int size : sizes) {
             Check.words(y, Check.w(Check.SET, 1, 0, size), Check.w(Check.HOST, 0, 0, Check.ALLOC));
@@ -232,6 +232,10 @@ public final class HostTest {
         x.run(500);
         check.same("how many in the end", x.output(0, -1), 165);
         check.same("output 7 in the end", x.output(0, 7), 158);
+        x.load(0);
+        for (int j = -1; j < 8; j++) {
+            check.same("output " + j + " after loading", x.output(0, j), 0);
+        }
     }
 
     private static void callKeepsTheFirstSixteen() {
@@ -247,6 +251,10 @@ public final class HostTest {
         }
         for (int what : new int[] {0, 1, 2, 3, -1, Integer.MAX_VALUE, Integer.MIN_VALUE}) {
             check.same("how many, with what " + what, x.call(1, -1, what), 20);
+        }
+        x.load(1);
+        for (int j = -1; j < 16; j++) {
+            noted("call " + j + " after loading", x, 1, j, 0, 0, 0);
         }
     }
 

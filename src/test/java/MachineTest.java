@@ -216,7 +216,9 @@ public final class MachineTest {
     private static void plainInstructions() {
         int set1 = Check.w(Check.SET, 1, 0, 12);
         int set2 = Check.w(Check.SET, 2, 0, 10);
-        check.same("SET", done(0, Check.w(Check.SET, 5, 3, -77)).register(0, 5), -77);
+        for (int r = 0; r < 6; r++) {
+            check.same("SET of r" + r, done(0, Check.w(Check.SET, r, 3, -77)).register(0, r), -77);
+        }
         check.same("SET the most", done(0, Check.w(Check.SET, 5, 3, Check.MOST_I)).register(0, 5), Check.MOST_I);
         check.same("SET the least", done(0, Check.w(Check.SET, 5, 3, Check.LEAST_I)).register(0, 5), Check.LEAST_I);
         check.same("COPY", done(0, set2, Check.w(Check.COPY, 1, 2, -3)).register(0, 1), 7);

@@ -11,6 +11,7 @@ public final class ModuleTest {
         verifyRefusesOtherSandboxes();
         loadPutsWordsAndZeroes();
         loadAgainBeginsAgain();
+        loadEmptiesOwnDataAlone();
         loadRefuses();
         check.end();
     }
@@ -194,6 +195,34 @@ public final class ModuleTest {
         check.same("no mail again", x.register(1, 1), -1);
         x.run(2);
         check.same("BREAK is 0 again", x.register(1, 1), 0);
+    }
+
+    /** Fills all data words of all sandboxes, then loads one of them again. */
+    private static void loadEmptiesOwnDataAlone() {
+        for (int again = 0; again < 3; again++) {
+            FencedModules x = new FencedModules();
+            for (int k = 0; k < 3; k++) {
+                x.clear();
+                Check.words(x, Check.w(Check.COPY, 1, 1, 1), Check.w(Check.AND, 6, 1, 15), Check.w(Check.OR, 6, 6, 16 * k),
+                    Check.w(Check.STORE, 1, 6, 0), Check.w(Check.GO, 0, 0, -5));
+                x.load(k);
+            }
+            x.run(3 * 16 * 5 + 6);
+            int[] before = new int[48];
+            for (int address = 0; address < 48; address++) {
+                before[address] = x.peek(address);
+                check.no("each data word is filled", before[address] == 0);
+            }
+            x.clear();
+            x.load(again);
+            for (int address = 0; address < 48; address++) {
+                check.same("peek(" + address + ") after load(" + again + ")", x.peek(address), address / 16 == again ? 0 : before[address]);
+            }
+            for (int address = 64; address < 160; address++) {
+                boolean isCode = (address - 64) % 32 < 5 && (address - 64) / 32 != again;
+                check.same("code at " + address, x.peek(address) == 0 ? 0 : 1, isCode ? 1 : 0);
+            }
+        }
     }
 
     private static void loadRefuses() {
