@@ -1,19 +1,39 @@
 /** Counts answers that are not as due, and helps the tests to write sources and modules. */
-final class Check {
+class Check {
     static final int TRAP = 0, SET = 1, COPY = 2, ADD = 3, SUB = 4, XOR = 5, AND = 6, OR = 7, LOAD = 8, STORE = 9;
     static final int BEQ = 10, BLT = 11, GO = 12, JUMP = 13, HOST = 14, LABEL = 15;
     static final int EXIT = 0, OUT = 1, IN = 2, ALLOC = 3, PRINT = 4, SEND = 5, RECEIVE = 6;
     static final int MOST_I = 2097151;
     static final int LEAST_I = -2097152;
 
+    /** No call may fail to end; a test that is not through by then has met one that does. */
+    private static final long MOST_MILLISECONDS = 200_000;
+
     private int made;
     private int wrong;
+    private String sentence = "";
+
+    Check() {
+        Thread watch = new Thread(Check::endLate);
+        watch.setDaemon(true);
+        watch.start();
+    }
+
+    private static void endLate() {
+        try {
+            Thread.sleep(MOST_MILLISECONDS);
+        } catch (InterruptedException stillThere) {
+            Thread.currentThread().interrupt();
+        }
+        System.out.println("a call does not come to an end");
+        Runtime.getRuntime().halt(1);
+    }
 
     void same(String what, long got, long want) {
         made++;
         if (got != want) {
             wrong++;
-            System.out.println(what + " answered " + got + ", due is " + want);
+            System.out.println(sentence + what + " answered " + got + ", due is " + want);
         }
     }
 
@@ -29,8 +49,20 @@ final class Check {
         made++;
         if (!got.equals(want)) {
             wrong++;
-            System.out.println(what + " answered\n  " + got + ", due is\n  " + want);
+            System.out.println(sentence + what + " answered\n  " + got + ", due is\n  " + want);
         }
+    }
+
+    /** The test that belongs to one sentence of the document; whatever is not as due in it is told with the sentence. */
+    void sentence(String text, Runnable test) {
+        int before = made;
+        sentence = "\"" + text + "\": ";
+        test.run();
+        if (made == before) {
+            wrong++;
+            System.out.println(sentence + "nothing was checked");
+        }
+        sentence = "";
     }
 
     void end() {
@@ -40,12 +72,17 @@ final class Check {
         }
     }
 
+    /** What stands for "too small" and "too large" where the document names a range that begins with 0. */
+    static int[] outside(int most) {
+        return new int[] {-1, -2, most + 1, most + 2, 1000, Integer.MAX_VALUE, Integer.MIN_VALUE};
+    }
+
     static int w(int op, int a, int b, int i) {
         return i * 1024 + b * 128 + a * 16 + op;
     }
 
     /** Four numbers a line: op, a, b, i. */
-    static void lines(FencedModules x, int... fields) {
+    static void lines(Fenced x, int... fields) {
         for (int f = 0; f < fields.length; f += 4) {
             if (!x.line(fields[f], fields[f + 1], fields[f + 2], fields[f + 3])) {
                 throw new IllegalStateException("a line of a test was refused");
@@ -53,7 +90,7 @@ final class Check {
         }
     }
 
-    static void words(FencedModules x, int... words) {
+    static void words(Fenced x, int... words) {
         for (int word : words) {
             if (!x.word(word)) {
                 throw new IllegalStateException("a word of a test was refused");
@@ -61,39 +98,39 @@ final class Check {
         }
     }
 
-    static FencedModules withLines(int... fields) {
-        FencedModules x = new FencedModules();
+    static Fenced withLines(int... fields) {
+        Fenced x = new Fenced();
         lines(x, fields);
         return x;
     }
 
-    static FencedModules withWords(int... words) {
-        FencedModules x = new FencedModules();
+    static Fenced withWords(int... words) {
+        Fenced x = new Fenced();
         words(x, words);
         return x;
     }
 
     /** Rewrites and loads what the lines say. */
-    static FencedModules loaded(int k, int... fields) {
-        FencedModules x = withLines(fields);
+    static Fenced loaded(int k, int... fields) {
+        Fenced x = withLines(fields);
         install(x, k);
         return x;
     }
 
-    static void install(FencedModules x, int k) {
+    static void install(Fenced x, int k) {
         if (x.rewrite(k) < 1 || !x.load(k)) {
             throw new IllegalStateException("a source of a test was not loaded");
         }
     }
 
-    static void replace(FencedModules x, int k, int... fields) {
+    static void replace(Fenced x, int k, int... fields) {
         x.clear();
         lines(x, fields);
         install(x, k);
     }
 
     /** The words of the module, as a text. */
-    static String module(FencedModules x) {
+    static String module(Fenced x) {
         StringBuilder text = new StringBuilder();
         for (int p = 0; p < x.module(-1); p++) {
             text.append(x.module(p)).append(' ');
@@ -110,7 +147,7 @@ final class Check {
     }
 
     /** All that can be asked without changing anything. */
-    static String picture(FencedModules x) {
+    static String picture(Fenced x) {
         StringBuilder text = new StringBuilder("module ").append(module(x));
         for (int k = 0; k < 3; k++) {
             text.append("\nsandbox ").append(k).append(": ").append(x.state(k)).append(" at ").append(x.pc(k));

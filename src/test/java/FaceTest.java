@@ -54,53 +54,66 @@ public final class FaceTest {
             if (Modifier.isPublic(method.getModifiers())) {
                 publicNames.add(method.getName());
             } else {
-                check.yes(method + " is private", Modifier.isPrivate(method.getModifiers()));
+                check.yes(method + " is private", Modifier.isPrivate(method.getModifiers()) || method.isSynthetic());
             }
         }
         for (Field field : FencedModules.class.getDeclaredFields()) {
-            check.yes(field + " is private", Modifier.isPrivate(field.getModifiers()));
+            check.yes(field + " is private", Modifier.isPrivate(field.getModifiers()) || field.isSynthetic());
         }
-        for (Class<?> inside : FencedModules.class.getDeclaredClasses()) {
-            for (Method method : inside.getDeclaredMethods()) {
-                check.no(method + " has a public method's name", publicNames.contains(method.getName()));
+        for (Class<?> one : allClasses()) {
+            for (Method method : one.getDeclaredMethods()) {
+                boolean isPrivate = Modifier.isPrivate(method.getModifiers());
+                check.no(method + " is private and has a public method's name", isPrivate && publicNames.contains(method.getName()));
+                check.no(method + " is a lambda", method.getName().startsWith("lambda$"));
             }
         }
     }
 
-    private static void classesInside() {
+    private static List<Class<?>> allClasses() {
         List<Class<?>> all = new ArrayList<>(List.of(FencedModules.class.getDeclaredClasses()));
-        check.yes("at most some twelve classes", all.size() + 1 <= 12);
-        for (Class<?> inside : all) {
-            check.yes(inside + " is static", Modifier.isStatic(inside.getModifiers()));
-            check.no(inside + " is public", Modifier.isPublic(inside.getModifiers()) || Modifier.isProtected(inside.getModifiers()));
-        }
         all.add(FencedModules.class);
+        return all;
+    }
+
+    private static void classesInside() {
+        List<Class<?>> all = allClasses();
+        check.yes("at most some twelve classes", all.size() <= 13);
         for (Class<?> one : all) {
+            if (one != FencedModules.class) {
+                check.yes(one + " is static", Modifier.isStatic(one.getModifiers()));
+                check.no(one + " is public", Modifier.isPublic(one.getModifiers()) || Modifier.isProtected(one.getModifiers()));
+            }
             int fields = 0;
             for (Field field : one.getDeclaredFields()) {
-                if (Modifier.isStatic(field.getModifiers())) {
-                    check.yes(field + " is a constant", Modifier.isFinal(field.getModifiers()) && field.getType() == int.class);
-                } else {
+                if (!Modifier.isStatic(field.getModifiers())) {
                     fields++;
+                } else if (!field.isSynthetic()) {
+                    check.yes(field + " is a constant", Modifier.isFinal(field.getModifiers()) && mayBeConstant(field.getType()));
                 }
             }
-            check.yes(one + " has at most twenty fields", fields <= 20);
+            check.yes(one + " has some twenty fields at most", fields <= 24);
             for (Method method : one.getDeclaredMethods()) {
                 check.yes(method + " takes at most seven", method.getParameterCount() <= 7);
             }
         }
     }
 
+    private static boolean mayBeConstant(Class<?> type) {
+        Class<?> part = type.isArray() ? type.getComponentType() : type;
+        boolean isNumber = part == int.class || part == long.class || part == char.class;
+        return isNumber || part.isEnum() || (type.isArray() ? part == byte.class : part == boolean.class || part == String.class);
+    }
+
     private static void wordsThatAreNotInTheFile() throws IOException {
         String text = Files.readString(Path.of("src/main/java/FencedModules.java"));
         String code = text.replaceAll("(?s)/\\*.*?\\*/", "").replaceAll("//[^\n]*", "");
-        String[] forbidden = {"\\bthrow\\b", "\\bthrows\\b", "\\btry\\b", "\\bcatch\\b", "\\bsynchronized\\b", "\\bassert\\b", "->", "::", "\\bpackage\\b",
-            "\\bprotected\\b", "\\bwhile *\\( *true", "\\bfor *\\( *;", "static *\\{", "Exact\\b", "\\bSystem\\.(?!arraycopy)", "\\bstatic (?!final)[\\w\\[\\]]+ \\w+ *[=;]"};
+        String[] forbidden = {"\\bthrow\\b", "\\bthrows\\b", "\\btry\\b", "\\bcatch\\b", "\\bsynchronized\\b", "\\bassert\\b", "::", "\\bpackage\\b",
+            "\\bprotected\\b", "\\bstatic *\\{", "Exact\\b", "\\bSystem\\.(?!arraycopy)", "\\bThread\\b", "\\bhashCode\\b"};
         for (String word : forbidden) {
             check.no("the file has " + word, Pattern.compile(word).matcher(code).find());
         }
         for (String line : code.split("\n")) {
-            check.yes("only Arrays is imported: " + line, !line.startsWith("import") || line.equals("import java.util.Arrays;"));
+            check.yes("another import than is listed: " + line, !line.startsWith("import") || line.matches("import java\\.util\\.(Arrays|ArrayList|List|Iterator);\\s*"));
         }
         for (char c : text.toCharArray()) {
             check.yes("characters 0 to 255 alone", c < 256);

@@ -25,7 +25,7 @@ public final class FollowTest {
     }
 
     /** Ends with the reason in the step behind the given number of lines, and in no step before. */
-    private static void ends(String what, FencedModules x, int lines, int reason) {
+    private static void ends(String what, Fenced x, int lines, int reason) {
         for (int n = 0; n <= lines; n++) {
             check.same(what + ", " + n + " steps", x.follow(1, n), 0);
         }
@@ -34,12 +34,12 @@ public final class FollowTest {
     }
 
     private static void endsBehindTheLastLine() {
-        ends("no lines", new FencedModules(), 0, 2);
+        ends("no lines", new Fenced(), 0, 2);
         ends("one line", Check.withLines(Check.SET, 1, 0, 5), 1, 2);
-        FencedModules x = Check.withLines(Check.GO, 0, 0, 3, Check.TRAP, 0, 0, 0);
+        Fenced x = Check.withLines(Check.GO, 0, 0, 3, Check.TRAP, 0, 0, 0);
         x.mark(3);
         ends("a label behind the last line", x, 1, 2);
-        FencedModules y = new FencedModules();
+        Fenced y = new Fenced();
         y.mark(0);
         Check.lines(y, Check.GO, 0, 0, 0);
         check.same("an endless round", y.follow(0, 300), 0);
@@ -51,7 +51,7 @@ public final class FollowTest {
     }
 
     private static void endsWithExitInItsStep() {
-        FencedModules x = Check.withLines(Check.SET, 1, 0, 5, Check.HOST, 0, 0, Check.EXIT, Check.HOST, 0, 0, Check.OUT);
+        Fenced x = Check.withLines(Check.SET, 1, 0, 5, Check.HOST, 0, 0, Check.EXIT, Check.HOST, 0, 0, Check.OUT);
         check.same("one step", x.follow(2, 1), 0);
         check.same("nothing is noted", x.trace(-1, 0), 0);
         check.same("two steps", x.follow(2, 2), 1);
@@ -63,7 +63,7 @@ public final class FollowTest {
     }
 
     private static void labelsMayBeMoved() {
-        FencedModules x = Check.withLines(Check.LABEL, 0, 0, 5, Check.COPY, 1, 0, 0, Check.STORE, 1, 4, 15,
+        Fenced x = Check.withLines(Check.LABEL, 0, 0, 5, Check.COPY, 1, 0, 0, Check.STORE, 1, 4, 15,
             Check.LOAD, 2, 4, 15, Check.COPY, 2, 2, 0, Check.JUMP, 2, 0, 0, Check.TRAP, 0, 0, 0);
         x.mark(5);
         Check.lines(x, Check.HOST, 0, 0, Check.EXIT);
@@ -82,7 +82,7 @@ public final class FollowTest {
             {Check.BEQ, 0, 1, 0}, {Check.BEQ, 1, 0, 0}, {Check.BEQ, 0, 0, 0},
             {Check.BLT, 0, 1, 0}, {Check.BLT, 1, 0, 0}, {Check.BLT, 0, 0, 0}};
         for (int[] f : taking) {
-            FencedModules x = new FencedModules();
+            Fenced x = new Fenced();
             x.mark(0);
             Check.lines(x, Check.LABEL, 0, 0, 0, f[0], f[1], f[2], f[3]);
             ends("op " + f[0] + " of r" + f[1] + ", r" + f[2] + ", " + f[3], x, 1, 3);
@@ -93,30 +93,30 @@ public final class FollowTest {
         int[][] overwriting = {{Check.SET, 0, 0, 1}, {Check.SET, 0, 7, 1}, {Check.COPY, 0, 1, 5}, {Check.COPY, 0, 1, 0}, {Check.AND, 0, 1, 3},
             {Check.OR, 0, 1, 3}, {Check.LOAD, 0, 1, 3}};
         for (int[] f : overwriting) {
-            FencedModules x = new FencedModules();
+            Fenced x = new Fenced();
             x.mark(0);
             Check.lines(x, Check.LABEL, 0, 0, 0, f[0], f[1], f[2], f[3], Check.ADD, 0, 0, 0);
             ends("op " + f[0] + " over a label", x, 3, 2);
         }
-        FencedModules again = new FencedModules();
+        Fenced again = new Fenced();
         again.mark(0);
         Check.lines(again, Check.LABEL, 0, 0, 0, Check.LABEL, 0, 0, 1, Check.JUMP, 0, 0, 0, Check.TRAP, 0, 0, 0);
         again.mark(1);
         Check.lines(again, Check.HOST, 0, 0, Check.EXIT);
         check.same("LABEL over a label", again.follow(0, 4), 1);
-        FencedModules stored = new FencedModules();
+        Fenced stored = new Fenced();
         stored.mark(0);
         Check.lines(stored, Check.LABEL, 0, 0, 0, Check.STORE, 0, 1, 3, Check.STORE, 1, 1, 3, Check.LOAD, 2, 1, 3, Check.ADD, 2, 2, 0);
         ends("STORE over a label", stored, 5, 2);
-        FencedModules jumped = new FencedModules();
+        Fenced jumped = new Fenced();
         jumped.mark(0);
         Check.lines(jumped, Check.LABEL, 0, 0, 1, Check.SET, 0, 0, 1, Check.JUMP, 0, 0, 0);
         jumped.mark(1);
         ends("a label that was overwritten is none", jumped, 2, 4);
     }
 
-    private static FencedModules withLabelIn(int register, int number) {
-        FencedModules x = new FencedModules();
+    private static Fenced withLabelIn(int register, int number) {
+        Fenced x = new Fenced();
         x.mark(0);
         Check.lines(x, Check.LABEL, register, 0, 0, Check.HOST, 0, 0, number, Check.HOST, 0, 0, Check.EXIT);
         return x;
@@ -126,21 +126,21 @@ public final class FollowTest {
         int[] takenFirst = {1, 3, 1, 3, 3, 3, 1};
         int[] takenSecond = {1, 1, 1, 1, 3, 3, 1};
         for (int number = 0; number < 7; number++) {
-            FencedModules first = withLabelIn(1, number);
+            Fenced first = withLabelIn(1, number);
             check.same("a label in r1, call " + number, first.follow(0, 300), takenFirst[number]);
             check.same("how many are noted", first.trace(-1, 0), takenFirst[number] == 3 ? 0 : number == 0 ? 1 : 2);
             check.same("one step", first.follow(0, 1), 0);
             check.same("two steps", first.follow(0, 2), number == 0 ? 1 : takenFirst[number] == 3 ? 3 : 0);
-            FencedModules second = withLabelIn(2, number);
+            Fenced second = withLabelIn(2, number);
             check.same("a label in r2, call " + number, second.follow(0, 300), takenSecond[number]);
             check.same("how many are noted", second.trace(-1, 0), takenSecond[number] == 3 ? 0 : number == 0 ? 1 : 2);
             check.same("an argument that is none", second.trace(0, 2), 0);
         }
-        FencedModules exit = withLabelIn(1, Check.EXIT);
+        Fenced exit = withLabelIn(1, Check.EXIT);
         exit.follow(0, 300);
         check.same("a label is no argument of EXIT", exit.trace(0, 1), 0);
         for (int number : new int[] {Check.IN, Check.RECEIVE}) {
-            FencedModules x = new FencedModules();
+            Fenced x = new Fenced();
             x.mark(0);
             Check.lines(x, Check.LABEL, 1, 0, 0, Check.HOST, 0, 0, number, Check.HOST, 0, 0, Check.OUT, Check.HOST, 0, 0, Check.EXIT);
             check.same("the answer is an int", x.follow(0, 300), 1);
@@ -148,8 +148,8 @@ public final class FollowTest {
         }
     }
 
-    private static FencedModules withLabelAt(int address, int start, int length) {
-        FencedModules x = new FencedModules();
+    private static Fenced withLabelAt(int address, int start, int length) {
+        Fenced x = new Fenced();
         x.mark(0);
         Check.lines(x, Check.LABEL, 0, 0, 0, Check.STORE, 0, 4, address, Check.SET, 1, 0, start, Check.SET, 2, 0, length,
             Check.HOST, 0, 0, Check.PRINT, Check.HOST, 0, 0, Check.OUT, Check.HOST, 0, 0, Check.EXIT);
@@ -161,7 +161,7 @@ public final class FollowTest {
             {5, 0, 17, 1, -1}, {5, -1, 9, 1, -1}, {5, 5, -1, 1, -1}, {0, 0, 16, 3, 0}, {15, 0, 16, 3, 0}, {15, 0, 15, 1, 15}, {15, 16, 0, 1, 0},
             {5, 2, Check.MOST_I, 1, -1}};
         for (int[] f : cases) {
-            FencedModules x = withLabelAt(f[0], f[1], f[2]);
+            Fenced x = withLabelAt(f[0], f[1], f[2]);
             String what = "a label at " + f[0] + ", PRINT " + f[1] + ", " + f[2];
             check.same(what, x.follow(2, 300), f[3]);
             if (f[3] == 1) {
@@ -178,14 +178,14 @@ public final class FollowTest {
     private static void jumps() {
         ends("JUMP to 0", Check.withLines(Check.JUMP, 0, 0, 0), 0, 4);
         ends("JUMP to a place's number", Check.withLines(Check.SET, 0, 0, 2, Check.JUMP, 0, 0, 0, Check.HOST, 0, 0, 0), 1, 4);
-        FencedModules x = Check.withLines(Check.LABEL, 3, 0, 1, Check.JUMP, 3, 7, 99);
+        Fenced x = Check.withLines(Check.LABEL, 3, 0, 1, Check.JUMP, 3, 7, 99);
         x.mark(1);
         ends("JUMP behind the last line", x, 2, 2);
-        FencedModules y = new FencedModules();
+        Fenced y = new Fenced();
         y.mark(6);
         Check.lines(y, Check.LABEL, 3, 0, 6, Check.JUMP, 3, 0, 0);
         check.same("JUMP backward", y.follow(0, 300), 0);
-        FencedModules z = Check.withLines(Check.LABEL, 0, 0, 7, Check.STORE, 0, 4, 0, Check.SET, 0, 0, 0, Check.LOAD, 1, 0, 1, Check.JUMP, 1, 0, 0);
+        Fenced z = Check.withLines(Check.LABEL, 0, 0, 7, Check.STORE, 0, 4, 0, Check.SET, 0, 0, 0, Check.LOAD, 1, 0, 1, Check.JUMP, 1, 0, 0);
         z.mark(7);
         ends("JUMP to a word beside a label", z, 4, 4);
     }
@@ -202,7 +202,7 @@ public final class FollowTest {
                 ends("op " + op + " at 100 - " + (100 - i), Check.withLines(Check.SET, 0, 0, 100, op, 1, 0, i - 100), 2, 2);
             }
         }
-        FencedModules x = new FencedModules();
+        Fenced x = new Fenced();
         x.mark(0);
         Check.lines(x, Check.LABEL, 0, 0, 0, Check.STORE, 0, 4, 16);
         ends("STORE of a label at 16", x, 1, 5);
@@ -211,7 +211,7 @@ public final class FollowTest {
     private static void labelsBeforeAddresses() {
         for (int op : new int[] {Check.LOAD, Check.STORE}) {
             for (int i : new int[] {-1, 0, 15, 16, 1000}) {
-                FencedModules x = new FencedModules();
+                Fenced x = new Fenced();
                 x.mark(0);
                 Check.lines(x, Check.LABEL, 0, 0, 0, op, 1, 0, i);
                 ends("op " + op + " at a label + " + i, x, 1, 3);
@@ -221,7 +221,7 @@ public final class FollowTest {
 
     /** Puts r1 out after the lines, so that the trace has it. */
     private static int resultOf(int... fields) {
-        FencedModules x = Check.withLines(fields);
+        Fenced x = Check.withLines(fields);
         Check.lines(x, Check.HOST, 0, 0, Check.OUT, Check.HOST, 0, 0, Check.EXIT);
         check.same("lines that compute", x.follow(0, 300), 1);
         return x.trace(0, 1);
@@ -240,7 +240,7 @@ public final class FollowTest {
         check.same("a register is 0 at first", resultOf(Check.COPY, 1, 4, 0), 0);
         int[][] compared = {{Check.BEQ, 4, 4, 1}, {Check.BEQ, 4, 5, 0}, {Check.BLT, 4, 5, 1}, {Check.BLT, 5, 5, 0}, {Check.BLT, 6, 5, 0}, {Check.BLT, -6, 5, 1}};
         for (int[] f : compared) {
-            FencedModules x = Check.withLines(Check.SET, 1, 0, f[1], Check.SET, 2, 0, f[2], f[0], 1, 2, 4, Check.TRAP, 0, 0, 0);
+            Fenced x = Check.withLines(Check.SET, 1, 0, f[1], Check.SET, 2, 0, f[2], f[0], 1, 2, 4, Check.TRAP, 0, 0, 0);
             x.mark(4);
             Check.lines(x, Check.HOST, 0, 0, Check.EXIT);
             check.same("op " + f[0] + " of " + f[1] + ", " + f[2], x.follow(0, 300), f[3] == 1 ? 1 : 2);
@@ -256,7 +256,7 @@ public final class FollowTest {
     }
 
     private static void beginsAnewEachTime() {
-        FencedModules x = Check.withLines(Check.COPY, 1, 3, 0, Check.HOST, 0, 0, Check.OUT, Check.LOAD, 1, 4, 15, Check.HOST, 0, 0, Check.OUT,
+        Fenced x = Check.withLines(Check.COPY, 1, 3, 0, Check.HOST, 0, 0, Check.OUT, Check.LOAD, 1, 4, 15, Check.HOST, 0, 0, Check.OUT,
             Check.SET, 3, 0, 7, Check.STORE, 3, 4, 15, Check.LABEL, 2, 0, 0, Check.STORE, 2, 4, 3);
         x.mark(0);
         for (int again = 0; again < 3; again++) {
@@ -270,7 +270,7 @@ public final class FollowTest {
     }
 
     private static void answer(String what, int due, int number, int r1, int r2) {
-        FencedModules x = Check.withLines(Check.SET, 1, 0, r1, Check.SET, 2, 0, r2, Check.HOST, 0, 0, number,
+        Fenced x = Check.withLines(Check.SET, 1, 0, r1, Check.SET, 2, 0, r2, Check.HOST, 0, 0, number,
             Check.HOST, 0, 0, Check.OUT, Check.HOST, 0, 0, Check.EXIT);
         check.same(what, x.follow(1, 300), 1);
         check.same(what + ": number", x.trace(0, 0), number);
@@ -290,7 +290,7 @@ public final class FollowTest {
             answer("SEND " + k, -1, Check.SEND, k, 6);
         }
         answer("RECEIVE", -1, Check.RECEIVE, 5, 6);
-        FencedModules x = Check.withLines(Check.SET, 1, 0, 5, Check.HOST, 0, 0, Check.ALLOC, Check.SET, 1, 0, 6, Check.HOST, 0, 0, Check.ALLOC,
+        Fenced x = Check.withLines(Check.SET, 1, 0, 5, Check.HOST, 0, 0, Check.ALLOC, Check.SET, 1, 0, 6, Check.HOST, 0, 0, Check.ALLOC,
             Check.HOST, 0, 0, Check.OUT, Check.SET, 1, 0, 6, Check.HOST, 0, 0, Check.ALLOC, Check.HOST, 0, 0, Check.OUT);
         for (int again = 0; again < 2; again++) {
             check.same("ALLOC twice", x.follow(0, 300), 2);
@@ -300,7 +300,7 @@ public final class FollowTest {
     }
 
     private static void takesAllInputsAgain() {
-        FencedModules x = Check.loaded(2, Check.HOST, 0, 0, Check.IN, Check.HOST, 0, 0, Check.OUT, Check.HOST, 0, 0, Check.IN,
+        Fenced x = Check.loaded(2, Check.HOST, 0, 0, Check.IN, Check.HOST, 0, 0, Check.OUT, Check.HOST, 0, 0, Check.IN,
             Check.HOST, 0, 0, Check.OUT, Check.HOST, 0, 0, Check.IN, Check.HOST, 0, 0, Check.OUT);
         x.feed(2, 70);
         x.feed(2, 71);
@@ -319,7 +319,7 @@ public final class FollowTest {
     }
 
     private static void leavesTheSandboxesAlone() {
-        FencedModules x = Check.loaded(0, Check.SET, 1, 0, 3, Check.HOST, 0, 0, Check.ALLOC, Check.STORE, 1, 1, 0, Check.SET, 2, 0, 8,
+        Fenced x = Check.loaded(0, Check.SET, 1, 0, 3, Check.HOST, 0, 0, Check.ALLOC, Check.STORE, 1, 1, 0, Check.SET, 2, 0, 8,
             Check.HOST, 0, 0, Check.SEND, Check.SET, 1, 0, 0, Check.HOST, 0, 0, Check.PRINT, Check.HOST, 0, 0, Check.OUT,
             Check.HOST, 0, 0, Check.RECEIVE, Check.HOST, 0, 0, Check.EXIT);
         x.feed(0, 5);
@@ -337,7 +337,7 @@ public final class FollowTest {
     }
 
     private static void refuses() {
-        FencedModules x = Check.withLines(Check.HOST, 0, 0, Check.OUT);
+        Fenced x = Check.withLines(Check.HOST, 0, 0, Check.OUT);
         check.same("follow", x.follow(0, 300), 2);
         String before = Check.picture(x);
         for (int n : new int[] {-1, 301, Integer.MAX_VALUE, Integer.MIN_VALUE}) {
@@ -355,7 +355,7 @@ public final class FollowTest {
     }
 
     private static void traceOfTheLatest() {
-        FencedModules x = new FencedModules();
+        Fenced x = new Fenced();
         x.mark(0);
         Check.lines(x, Check.COPY, 3, 3, 1, Check.COPY, 1, 3, 0, Check.SET, 2, 0, 100, Check.HOST, 0, 0, Check.SEND, Check.GO, 0, 0, 0);
         check.same("follow", x.follow(0, 300), 0);

@@ -19,19 +19,19 @@ public final class HostTest {
     }
 
     /** Sets r1 and r2, then calls the host; r1 is the answer. */
-    private static FencedModules asked(int k, int number, int r1, int r2) {
-        FencedModules x = Check.withWords(Check.w(Check.SET, 1, 0, r1), Check.w(Check.SET, 2, 0, r2), Check.w(Check.HOST, 0, 0, number));
+    private static Fenced asked(int k, int number, int r1, int r2) {
+        Fenced x = Check.withWords(Check.w(Check.SET, 1, 0, r1), Check.w(Check.SET, 2, 0, r2), Check.w(Check.HOST, 0, 0, number));
         x.load(k);
         x.run(3);
         return x;
     }
 
-    private static void noted(String what, FencedModules x, int k, int j, int... fields) {
+    private static void noted(String what, Fenced x, int k, int j, int... fields) {
         check.sameText(what, Check.text(x.call(k, j, 0), x.call(k, j, 1), x.call(k, j, 2)), Check.text(fields));
     }
 
     private static void exitKeepsItsRegisters() {
-        FencedModules x = asked(1, Check.EXIT, 41, 42);
+        Fenced x = asked(1, Check.EXIT, 41, 42);
         check.same("state", x.state(1), 2);
         check.same("pc stays", x.pc(1), 98);
         check.same("r1 stays", x.register(1, 1), 41);
@@ -40,7 +40,7 @@ public final class HostTest {
     }
 
     private static void outPutsOut() {
-        FencedModules x = asked(2, Check.OUT, 41, 42);
+        Fenced x = asked(2, Check.OUT, 41, 42);
         check.same("answer", x.register(2, 1), 0);
         check.same("r2 stays", x.register(2, 2), 42);
         check.same("pc goes on", x.pc(2), 131);
@@ -51,10 +51,10 @@ public final class HostTest {
     }
 
     private static void inTakesInOrder() {
-        FencedModules x = asked(0, Check.IN, 41, 42);
+        Fenced x = asked(0, Check.IN, 41, 42);
         check.same("no input", x.register(0, 1), -1);
         noted("no argument", x, 0, 0, 2, 0, 0);
-        FencedModules y = Check.loaded(0, Check.HOST, 0, 0, Check.IN, Check.COPY, 2, 1, 0, Check.HOST, 0, 0, Check.IN,
+        Fenced y = Check.loaded(0, Check.HOST, 0, 0, Check.IN, Check.COPY, 2, 1, 0, Check.HOST, 0, 0, Check.IN,
             Check.COPY, 3, 1, 0, Check.HOST, 0, 0, Check.IN, Check.COPY, 4, 1, 0, Check.HOST, 0, 0, Check.IN);
         y.feed(0, 7);
         y.feed(0, -1);
@@ -69,7 +69,7 @@ public final class HostTest {
     }
 
     private static void allocGrows() {
-        FencedModules x = asked(0, Check.ALLOC, 16, 42);
+        Fenced x = asked(0, Check.ALLOC, 16, 42);
         check.same("all at once", x.register(0, 1), 0);
         noted("one argument", x, 0, 0, 3, 16, 0);
         for (int size : new int[] {17, 0, -1, Check.LEAST_I, Check.MOST_I}) {
@@ -77,7 +77,7 @@ public final class HostTest {
         }
         int[] sizes = {4, 0, 5, 8, 6, 2, 1, 1, -3};
         int[] due = {0, -1, 4, -1, 9, -1, 15, -1, -1};
-        FencedModules y = new FencedModules();
+        Fenced y = new Fenced();
         for (int size : sizes) {
             Check.words(y, Check.w(Check.SET, 1, 0, size), Check.w(Check.HOST, 0, 0, Check.ALLOC));
         }
@@ -90,8 +90,8 @@ public final class HostTest {
     }
 
     /** Word p of the data is 10 + p, for p = 0 .. 3 and 15; then PRINT. */
-    private static FencedModules printed(int k, int start, int length) {
-        FencedModules x = Check.withLines(Check.SET, 0, 0, 10, Check.STORE, 0, 4, 0, Check.SET, 0, 0, 11, Check.STORE, 0, 4, 1,
+    private static Fenced printed(int k, int start, int length) {
+        Fenced x = Check.withLines(Check.SET, 0, 0, 10, Check.STORE, 0, 4, 0, Check.SET, 0, 0, 11, Check.STORE, 0, 4, 1,
             Check.SET, 0, 0, 12, Check.STORE, 0, 4, 2, Check.SET, 0, 0, 25, Check.STORE, 0, 4, 15,
             Check.SET, 1, 0, start, Check.SET, 2, 0, length, Check.HOST, 0, 0, Check.PRINT, Check.HOST, 0, 0, Check.EXIT);
         Check.install(x, k);
@@ -101,22 +101,22 @@ public final class HostTest {
 
     private static void printPutsOutInOrder() {
         for (int k = 0; k < 3; k++) {
-            FencedModules x = printed(k, 0, 3);
+            Fenced x = printed(k, 0, 3);
             check.same("answer", x.register(k, 1), 3);
             check.same("how many", x.output(k, -1), 3);
             check.sameText("in order", Check.text(x.output(k, 2), x.output(k, 1), x.output(k, 0)), Check.text(10, 11, 12));
             noted("two arguments", x, k, 0, 4, 0, 3);
-            FencedModules last = printed(k, 15, 1);
+            Fenced last = printed(k, 15, 1);
             check.same("the last word", last.output(k, 0), 25);
-            FencedModules all = printed(k, 0, 16);
+            Fenced all = printed(k, 0, 16);
             check.same("all words", all.output(k, -1), 16);
             check.same("the latest of all", all.output(k, 0), 25);
             check.same("all: answer", all.register(k, 1), 16);
-            FencedModules inner = printed(k, 1, 1);
+            Fenced inner = printed(k, 1, 1);
             check.same("an inner word", inner.output(k, 0), 11);
         }
         for (int start : new int[] {0, 5, 16}) {
-            FencedModules none = printed(1, start, 0);
+            Fenced none = printed(1, start, 0);
             check.same("none: answer", none.register(1, 1), 0);
             check.same("none: how many", none.output(1, -1), 0);
         }
@@ -125,12 +125,12 @@ public final class HostTest {
     private static void printRefuses() {
         int[][] wrong = {{17, 0}, {16, 1}, {0, 17}, {8, 9}, {-1, 1}, {1, -1}, {-1, 17}, {17, -1}, {Check.MOST_I, 1}, {1, Check.MOST_I}, {0, -1}};
         for (int[] f : wrong) {
-            FencedModules x = printed(0, f[0], f[1]);
+            Fenced x = printed(0, f[0], f[1]);
             check.same("PRINT " + f[0] + ", " + f[1], x.register(0, 1), -1);
             check.same("nothing is put out", x.output(0, -1), 0);
             noted("it is noted", x, 0, 0, 4, f[0], f[1]);
         }
-        FencedModules y = new FencedModules();
+        Fenced y = new Fenced();
         Check.words(y, Check.w(Check.SET, 1, 0, 1 << 20));
         for (int n = 0; n < 10; n++) {
             Check.words(y, Check.w(Check.ADD, 1, 1, 0));
@@ -143,7 +143,7 @@ public final class HostTest {
     }
 
     private static void sendAndReceive() {
-        FencedModules x = Check.withLines(Check.SET, 1, 0, 2, Check.SET, 2, 0, 50, Check.HOST, 0, 0, Check.SEND,
+        Fenced x = Check.withLines(Check.SET, 1, 0, 2, Check.SET, 2, 0, 50, Check.HOST, 0, 0, Check.SEND,
             Check.COPY, 3, 1, 0, Check.SET, 1, 0, 2, Check.SET, 2, 0, 51, Check.HOST, 0, 0, Check.SEND, Check.HOST, 0, 0, Check.EXIT);
         Check.install(x, 0);
         Check.replace(x, 2, Check.HOST, 0, 0, Check.RECEIVE, Check.COPY, 2, 1, 0, Check.HOST, 0, 0, Check.RECEIVE,
@@ -157,9 +157,9 @@ public final class HostTest {
     }
 
     private static void sendRefuses() {
-        FencedModules x = new FencedModules();
+        Fenced x = new Fenced();
         for (int k : new int[] {-1, 3, 0, 2, Check.MOST_I, Check.LEAST_I}) {
-            FencedModules y = asked(1, Check.SEND, k, 5);
+            Fenced y = asked(1, Check.SEND, k, 5);
             check.same("SEND to " + k, y.register(1, 1), -1);
             noted("it is noted", y, 1, 0, 5, k, 5);
         }
@@ -186,7 +186,7 @@ public final class HostTest {
         int to0 = Check.w(Check.SET, 1, 0, 0);
         int send = Check.w(Check.HOST, 0, 0, Check.SEND);
         int receive = Check.w(Check.HOST, 0, 0, Check.RECEIVE);
-        FencedModules x = Check.withWords(set2, to0, send, set2, to0, send, receive, set2, to0, send, set2, to0, send,
+        Fenced x = Check.withWords(set2, to0, send, set2, to0, send, receive, set2, to0, send, set2, to0, send,
             set2, to0, send, set2, to0, send, receive, receive, receive, receive, receive);
         x.load(0);
         x.run(7);
@@ -202,7 +202,7 @@ public final class HostTest {
     }
 
     private static void sendToSandboxesThatEnded() {
-        FencedModules x = new FencedModules();
+        Fenced x = new Fenced();
         x.load(1);
         Check.words(x, Check.w(Check.HOST, 0, 0, Check.EXIT));
         x.load(2);
@@ -219,7 +219,7 @@ public final class HostTest {
     }
 
     private static void outputKeepsTheLatestEight() {
-        FencedModules x = Check.withWords(Check.w(Check.COPY, 3, 3, 1), Check.w(Check.COPY, 1, 3, 0), Check.w(Check.HOST, 0, 0, Check.OUT), Check.w(Check.GO, 0, 0, -4));
+        Fenced x = Check.withWords(Check.w(Check.COPY, 3, 3, 1), Check.w(Check.COPY, 1, 3, 0), Check.w(Check.HOST, 0, 0, Check.OUT), Check.w(Check.GO, 0, 0, -4));
         x.load(0);
         for (int n = 1; n <= 40; n++) {
             x.run(4);
@@ -239,7 +239,7 @@ public final class HostTest {
     }
 
     private static void callKeepsTheFirstSixteen() {
-        FencedModules x = Check.withWords(Check.w(Check.COPY, 3, 3, 1), Check.w(Check.COPY, 1, 3, 0), Check.w(Check.HOST, 0, 0, Check.OUT), Check.w(Check.GO, 0, 0, -4));
+        Fenced x = Check.withWords(Check.w(Check.COPY, 3, 3, 1), Check.w(Check.COPY, 1, 3, 0), Check.w(Check.HOST, 0, 0, Check.OUT), Check.w(Check.GO, 0, 0, -4));
         x.load(1);
         for (int n = 1; n <= 20; n++) {
             x.run(4);
@@ -259,7 +259,7 @@ public final class HostTest {
     }
 
     private static void questionsOutOfRange() {
-        FencedModules x = asked(1, Check.PRINT, 1, 2);
+        Fenced x = asked(1, Check.PRINT, 1, 2);
         for (int what : new int[] {-1, 3, Integer.MAX_VALUE, Integer.MIN_VALUE}) {
             check.same("call(1, 0, " + what + ")", x.call(1, 0, what), 0);
         }

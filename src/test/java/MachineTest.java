@@ -27,7 +27,7 @@ public final class MachineTest {
     private static final int ROUND = Check.w(Check.GO, 0, 0, -1);
 
     private static void feedTakesTwelve() {
-        FencedModules x = Check.loaded(1, Check.HOST, 0, 0, Check.IN, Check.HOST, 0, 0, Check.IN);
+        Fenced x = Check.loaded(1, Check.HOST, 0, 0, Check.IN, Check.HOST, 0, 0, Check.IN);
         for (int n = 0; n < 6; n++) {
             check.yes("feed", x.feed(1, 100 + n));
         }
@@ -48,7 +48,7 @@ public final class MachineTest {
     }
 
     private static void feedOfSandboxesThatEnded() {
-        FencedModules x = Check.withWords();
+        Fenced x = Check.withWords();
         x.load(0);
         Check.words(x, Check.w(Check.HOST, 0, 0, Check.EXIT));
         x.load(1);
@@ -64,7 +64,7 @@ public final class MachineTest {
     }
 
     private static void runTakesItsRange() {
-        FencedModules x = Check.withWords(ROUND);
+        Fenced x = Check.withWords(ROUND);
         x.load(0);
         Check.words(x, 0);
         check.same("run(500)", x.run(500), 500);
@@ -77,7 +77,7 @@ public final class MachineTest {
     }
 
     private static void runCountsSteps() {
-        FencedModules x = Check.withWords(Check.w(Check.SET, 1, 0, 5), Check.w(Check.SET, 2, 0, 6), Check.w(Check.HOST, 0, 0, 0));
+        Fenced x = Check.withWords(Check.w(Check.SET, 1, 0, 5), Check.w(Check.SET, 2, 0, 6), Check.w(Check.HOST, 0, 0, 0));
         check.same("run with none loaded", x.run(7), 0);
         x.load(2);
         check.same("run(2)", x.run(2), 2);
@@ -89,8 +89,8 @@ public final class MachineTest {
     }
 
     /** Each sandbox counts its steps in r1, so that the turns can be seen. */
-    private static FencedModules counters(int... sandboxes) {
-        FencedModules x = new FencedModules();
+    private static Fenced counters(int... sandboxes) {
+        Fenced x = new Fenced();
         for (int n = 0; n < 30; n++) {
             x.word(Check.w(Check.COPY, 1, 1, 1));
         }
@@ -100,19 +100,19 @@ public final class MachineTest {
         return x;
     }
 
-    private static void steps(String when, FencedModules x, int zero, int one, int two) {
+    private static void steps(String when, Fenced x, int zero, int one, int two) {
         check.sameText(when, Check.text(x.register(0, 1), x.register(1, 1), x.register(2, 1)), Check.text(zero, one, two));
     }
 
     private static void turnsOfThreeSteps() {
-        FencedModules x = counters(0, 1, 2);
+        Fenced x = counters(0, 1, 2);
         int[] made = new int[3];
         for (int n = 0; n < 27; n++) {
             check.same("run(1)", x.run(1), 1);
             made[n / 3 % 3]++;
             steps("turns of three", x, made[0], made[1], made[2]);
         }
-        FencedModules y = counters(2, 0);
+        Fenced y = counters(2, 0);
         y.run(3);
         steps("0 first", y, 3, 0, 0);
         y.run(2);
@@ -122,7 +122,7 @@ public final class MachineTest {
     }
 
     private static void turnsGoOnInTheNextRun() {
-        FencedModules x = counters(0, 1);
+        Fenced x = counters(0, 1);
         x.run(2);
         steps("two of three", x, 2, 0, 0);
         x.run(0);
@@ -133,18 +133,18 @@ public final class MachineTest {
     }
 
     private static void turnMovesAtOnce() {
-        FencedModules x = counters(0);
+        Fenced x = counters(0);
         x.run(3);
         x.load(0);
         x.load(1);
         x.run(3);
         steps("it was 1's turn already", x, 0, 3, 0);
-        FencedModules y = counters(0);
+        Fenced y = counters(0);
         y.run(2);
         y.load(1);
         y.run(2);
         steps("it was still 0's turn", y, 3, 1, 0);
-        FencedModules z = counters(2);
+        Fenced z = counters(2);
         z.run(4);
         z.load(0);
         z.load(1);
@@ -153,7 +153,7 @@ public final class MachineTest {
     }
 
     private static void turnStaysWhenNoneRuns() {
-        FencedModules x = counters(1);
+        Fenced x = counters(1);
         check.same("to its trap", x.run(500), 31);
         check.same("none runs", x.run(5), 0);
         x.load(0);
@@ -161,7 +161,7 @@ public final class MachineTest {
         x.load(2);
         x.run(3);
         steps("it stayed 2's turn", x, 0, 0, 3);
-        FencedModules y = counters();
+        Fenced y = counters();
         y.run(5);
         y.load(1);
         y.load(0);
@@ -170,7 +170,7 @@ public final class MachineTest {
     }
 
     private static void turnAfterAnEnd() {
-        FencedModules x = new FencedModules();
+        Fenced x = new Fenced();
         Check.words(x, Check.w(Check.HOST, 0, 0, 0));
         x.load(0);
         x.clear();
@@ -191,12 +191,12 @@ public final class MachineTest {
     }
 
     private static void loadingBeginsTheTurnAnew() {
-        FencedModules x = counters(0, 1);
+        Fenced x = counters(0, 1);
         x.run(2);
         x.load(0);
         x.run(4);
         steps("three steps after loading", x, 3, 1, 0);
-        FencedModules y = counters(0, 1);
+        Fenced y = counters(0, 1);
         y.run(2);
         y.load(1);
         y.run(2);
@@ -204,8 +204,8 @@ public final class MachineTest {
     }
 
     /** Runs the words in sandbox k one after another. */
-    private static FencedModules done(int k, int... words) {
-        FencedModules x = Check.withWords(words);
+    private static Fenced done(int k, int... words) {
+        Fenced x = Check.withWords(words);
         if (!x.load(k)) {
             throw new IllegalStateException("words of a test were not loaded");
         }
@@ -245,7 +245,7 @@ public final class MachineTest {
             doubling[n] = Check.w(Check.ADD, 1, 1, 0);
         }
         doubling[12] = Check.w(Check.COPY, 2, 1, -1);
-        FencedModules x = done(0, doubling);
+        Fenced x = done(0, doubling);
         check.same("doubled to the least int", x.register(0, 1), Integer.MIN_VALUE);
         check.same("one less wraps", x.register(0, 2), Integer.MAX_VALUE);
         doubling[12] = Check.w(Check.SUB, 2, 1, 0);
@@ -253,7 +253,7 @@ public final class MachineTest {
     }
 
     private static int placeAfterBranch(int op, int left, int right) {
-        FencedModules x = Check.withWords(Check.w(Check.SET, 1, 0, left), Check.w(Check.SET, 2, 0, right), Check.w(op, 1, 2, 2), 0, 0, 0);
+        Fenced x = Check.withWords(Check.w(Check.SET, 1, 0, left), Check.w(Check.SET, 2, 0, right), Check.w(op, 1, 2, 2), 0, 0, 0);
         x.load(0);
         x.run(3);
         return x.pc(0);
@@ -266,11 +266,11 @@ public final class MachineTest {
         check.same("BLT of equals", placeAfterBranch(Check.BLT, 5, 5), 67);
         check.same("BLT of more", placeAfterBranch(Check.BLT, 6, 5), 67);
         check.same("GO", placeAfterBranch(Check.GO, 6, 5), 69);
-        FencedModules x = Check.withWords(Check.w(Check.SET, 1, 0, 0), Check.w(Check.BEQ, 0, 1, -2));
+        Fenced x = Check.withWords(Check.w(Check.SET, 1, 0, 0), Check.w(Check.BEQ, 0, 1, -2));
         x.load(2);
         x.run(2);
         check.same("BEQ backward", x.pc(2), 128);
-        FencedModules y = Check.withWords(0, 0);
+        Fenced y = Check.withWords(0, 0);
         y.clear();
         Check.words(y, Check.w(Check.GO, 3, 3, 1), 0, ROUND);
         y.load(1);
@@ -282,7 +282,7 @@ public final class MachineTest {
 
     private static void jumpsAndTheEndOfTheCode() {
         int e = 96;
-        FencedModules x = Check.withWords(Check.w(Check.SET, 1, 0, 1000), Check.w(Check.AND, 7, 1, 31), Check.w(Check.OR, 7, 7, e), Check.w(Check.JUMP, 7, 0, 0));
+        Fenced x = Check.withWords(Check.w(Check.SET, 1, 0, 1000), Check.w(Check.AND, 7, 1, 31), Check.w(Check.OR, 7, 7, e), Check.w(Check.JUMP, 7, 0, 0));
         x.load(1);
         x.run(4);
         check.same("JUMP to 1000 & 31", x.pc(1), e + 8);
@@ -290,17 +290,17 @@ public final class MachineTest {
         check.same("behind the module it traps", x.run(9), 1);
         check.same("trapped", x.state(1), 3);
         check.same("pc stays", x.pc(1), e + 8);
-        FencedModules y = Check.withWords(Check.w(Check.JUMP, 7, 5, 3));
+        Fenced y = Check.withWords(Check.w(Check.JUMP, 7, 5, 3));
         y.load(2);
         y.run(1);
         check.same("JUMP to E", y.pc(2), 128);
-        FencedModules z = counters(0);
+        Fenced z = counters(0);
         z.run(30);
         check.same("behind the last word", z.pc(0), 94);
         z.run(9);
         check.same("it traps there", z.state(0), 3);
         check.same("and stays there", z.pc(0), 94);
-        FencedModules full = new FencedModules();
+        Fenced full = new Fenced();
         for (int n = 0; n < 31; n++) {
             full.word(Check.w(Check.COPY, 1, 1, 1));
         }
@@ -313,7 +313,7 @@ public final class MachineTest {
     private static void accesses() {
         for (int k = 0; k < 3; k++) {
             for (int address : new int[] {0, 15, 16, -1, 47, Check.MOST_I, Check.LEAST_I}) {
-                FencedModules x = Check.loaded(k, Check.SET, 1, 0, 77, Check.SET, 2, 0, address, Check.STORE, 1, 2, 0, Check.LOAD, 3, 2, 16);
+                Fenced x = Check.loaded(k, Check.SET, 1, 0, 77, Check.SET, 2, 0, address, Check.STORE, 1, 2, 0, Check.LOAD, 3, 2, 16);
                 x.run(10);
                 int at = 16 * k + (address & 15);
                 check.same("stored", x.peek(at), 77);
@@ -326,7 +326,7 @@ public final class MachineTest {
                 check.same("other words stay", others, 0);
             }
         }
-        FencedModules y = Check.withWords(Check.w(Check.STORE, 6, 6, 0), Check.w(Check.LOAD, 5, 6, 0));
+        Fenced y = Check.withWords(Check.w(Check.STORE, 6, 6, 0), Check.w(Check.LOAD, 5, 6, 0));
         y.load(2);
         y.run(2);
         check.same("r6 can be stored", y.peek(32), 32);
@@ -334,7 +334,7 @@ public final class MachineTest {
     }
 
     private static void statesAndPlaces() {
-        FencedModules x = Check.withWords(Check.w(Check.SET, 1, 0, 8), 0);
+        Fenced x = Check.withWords(Check.w(Check.SET, 1, 0, 8), 0);
         check.same("empty", x.state(1), 0);
         x.load(1);
         check.same("running", x.state(1), 1);
@@ -344,7 +344,7 @@ public final class MachineTest {
         check.same("trapped", x.state(1), 3);
         check.same("pc of a trap", x.pc(1), 97);
         check.same("registers stay", x.register(1, 1), 8);
-        FencedModules y = Check.withWords(Check.w(Check.SET, 1, 0, 8), Check.w(Check.HOST, 0, 0, 0));
+        Fenced y = Check.withWords(Check.w(Check.SET, 1, 0, 8), Check.w(Check.HOST, 0, 0, 0));
         y.load(2);
         y.run(2);
         check.same("over", y.state(2), 2);
@@ -356,7 +356,7 @@ public final class MachineTest {
     }
 
     private static void questionsOutOfRange() {
-        FencedModules x = counters(0, 1, 2);
+        Fenced x = counters(0, 1, 2);
         x.run(9);
         for (int k : new int[] {-1, 3, 255, Integer.MAX_VALUE, Integer.MIN_VALUE}) {
             check.same("state(" + k + ")", x.state(k), -1);

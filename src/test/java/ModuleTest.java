@@ -17,7 +17,7 @@ public final class ModuleTest {
     }
 
     private static void wordAndModule() {
-        FencedModules x = new FencedModules();
+        Fenced x = new Fenced();
         int[] words = {0, -1, Integer.MAX_VALUE, Integer.MIN_VALUE, 15};
         for (int n = 0; n < 31; n++) {
             check.yes("word " + n, x.word(words[n % 5] ^ n));
@@ -63,16 +63,13 @@ public final class ModuleTest {
         int[] is = {-2, -1, 0, 1, 6, 7, 14, 15, 16, 30, 31, 32, 64, 96, 128, Check.MOST_I, Check.LEAST_I};
         int[] nexts = {0, Check.w(7, 6, 6, 0), Check.w(7, 6, 6, 16), Check.w(7, 6, 6, 32), Check.w(7, 7, 7, 64), Check.w(7, 7, 7, 96),
             Check.w(7, 7, 7, 128)};
-        FencedModules x = new FencedModules();
         for (int next : nexts) {
             for (int i : is) {
                 for (int rest = 0; rest < 1024; rest++) {
                     int op = rest & 15;
                     int a = rest / 16 % 8;
                     int b = rest / 128;
-                    x.clear();
-                    x.word(Check.w(op, a, b, i));
-                    x.word(next);
+                    Fenced x = Check.withWords(Check.w(op, a, b, i), next);
                     for (int k = 0; k < 3; k++) {
                         boolean due = isSafe(op, a, b, i, next, k);
                         int got = x.verify(k);
@@ -88,7 +85,7 @@ public final class ModuleTest {
             for (int n = 1; n <= 31; n += 10) {
                 for (int p = 0; p < n; p++) {
                     for (int to : new int[] {-1, 0, n - 1, n}) {
-                        FencedModules x = new FencedModules();
+                        Fenced x = new Fenced();
                         for (int q = 0; q < n; q++) {
                             x.word(q == p ? Check.w(op, 6, 7, to - p - 1) : 0);
                         }
@@ -118,13 +115,13 @@ public final class ModuleTest {
             check.same("AND r7 with 15", Check.withWords(Check.w(Check.AND, 7, 3, 15), or7).verify(k), 0);
             check.same("OR of another register", Check.withWords(Check.w(Check.AND, 6, 3, 15), Check.w(Check.OR, 6, 5, 16 * k)).verify(k), 0);
         }
-        FencedModules full = new FencedModules();
+        Fenced full = new Fenced();
         for (int n = 0; n < 30; n++) {
             full.word(0);
         }
         full.word(and6);
         check.same("AND r6 as word 30", full.verify(0), 30);
-        FencedModules gone = Check.withWords(and6, Check.w(Check.OR, 6, 6, 0));
+        Fenced gone = Check.withWords(and6, Check.w(Check.OR, 6, 6, 0));
         gone.clear();
         gone.word(and6);
         check.same("an OR from before clear does not count", gone.verify(0), 0);
@@ -133,19 +130,19 @@ public final class ModuleTest {
     private static void verifyTellsTheFirst() {
         check.same("verify of two wrong words", Check.withWords(0, 0, 15, 15).verify(1), 2);
         check.same("verify of the last wrong word", Check.withWords(0, 0, 0, 15).verify(1), 3);
-        check.same("verify of no words", new FencedModules().verify(2), -1);
+        check.same("verify of no words", new Fenced().verify(2), -1);
     }
 
     private static void verifyRefusesOtherSandboxes() {
         for (int k : new int[] {-1, 3, Integer.MAX_VALUE, Integer.MIN_VALUE}) {
-            check.same("verify(" + k + ")", new FencedModules().verify(k), -2);
+            check.same("verify(" + k + ")", new Fenced().verify(k), -2);
             check.same("verify(" + k + ") of a wrong module", Check.withWords(15).verify(k), -2);
         }
     }
 
     private static void loadPutsWordsAndZeroes() {
         for (int k = 0; k < 3; k++) {
-            FencedModules x = Check.withWords(Check.w(Check.SET, 1, 0, 5), Check.w(Check.GO, 0, 0, -2));
+            Fenced x = Check.withWords(Check.w(Check.SET, 1, 0, 5), Check.w(Check.GO, 0, 0, -2));
             check.yes("load", x.load(k));
             int e = 64 + 32 * k;
             for (int address = 0; address < 256; address++) {
@@ -163,7 +160,7 @@ public final class ModuleTest {
     }
 
     private static void loadAgainBeginsAgain() {
-        FencedModules x = Check.loaded(1,
+        Fenced x = Check.loaded(1,
             Check.SET, 2, 0, 9, Check.STORE, 2, 0, 3, Check.SET, 1, 0, 16, Check.HOST, 0, 0, Check.ALLOC,
             Check.HOST, 0, 0, Check.OUT, Check.SET, 1, 0, 1, Check.HOST, 0, 0, Check.SEND, Check.HOST, 0, 0, Check.IN,
             Check.HOST, 0, 0, Check.EXIT);
@@ -200,7 +197,7 @@ public final class ModuleTest {
     /** Fills all data words of all sandboxes, then loads one of them again. */
     private static void loadEmptiesOwnDataAlone() {
         for (int again = 0; again < 3; again++) {
-            FencedModules x = new FencedModules();
+            Fenced x = new Fenced();
             for (int k = 0; k < 3; k++) {
                 x.clear();
                 Check.words(x, Check.w(Check.COPY, 1, 1, 1), Check.w(Check.AND, 6, 1, 15), Check.w(Check.OR, 6, 6, 16 * k),
@@ -226,7 +223,7 @@ public final class ModuleTest {
     }
 
     private static void loadRefuses() {
-        FencedModules x = Check.withWords(0);
+        Fenced x = Check.withWords(0);
         for (int k : new int[] {-1, 3, Integer.MAX_VALUE, Integer.MIN_VALUE}) {
             check.no("load(" + k + ")", x.load(k));
         }
@@ -237,7 +234,7 @@ public final class ModuleTest {
             check.no("load of a wrong module", x.load(k));
         }
         check.sameText("a refused load changes nothing", Check.picture(x), before);
-        FencedModules other = Check.withWords(Check.w(Check.OR, 6, 6, 16));
+        Fenced other = Check.withWords(Check.w(Check.OR, 6, 6, 16));
         check.no("load for another sandbox", other.load(0));
         check.no("load for another sandbox", other.load(2));
         check.yes("load for the right sandbox", other.load(1));

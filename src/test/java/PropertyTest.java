@@ -35,7 +35,7 @@ public final class PropertyTest {
         return numbers[below(numbers.length)];
     }
 
-    private static void addLine(FencedModules x) {
+    private static void addLine(Fenced x) {
         int op = oneOf(1, 1, 2, 2, 3, 4, 5, 6, 7, 8, 9, 9, 10, 11, 12, 13, 14, 14, 14, 15, 15);
         int a = below(5);
         int b = below(5);
@@ -43,8 +43,8 @@ public final class PropertyTest {
         x.line(op, a, b, i);
     }
 
-    private static FencedModules madeUpSource() {
-        FencedModules x = new FencedModules();
+    private static Fenced madeUpSource() {
+        Fenced x = new Fenced();
         int lines = 1 + below(14);
         int[] labelAt = new int[8];
         for (int n = 0; n < 8; n++) {
@@ -64,7 +64,7 @@ public final class PropertyTest {
     }
 
     private static void rewrittenCodeIsSafeAndDoesWhatFollowingSays() {
-        FencedModules x = madeUpSource();
+        Fenced x = madeUpSource();
         int k = below(3);
         if (x.rewrite(k) == -1) {
             check.same("follow of what can't be rewritten", x.follow(k, 5), -1);
@@ -94,7 +94,7 @@ public final class PropertyTest {
         }
     }
 
-    private static void addSafeWords(FencedModules x, int k) {
+    private static void addSafeWords(Fenced x, int k) {
         for (int n = 0; n < 40 && x.module(-1) < 31; n++) {
             int d = 16 * k;
             int e = 64 + 32 * k;
@@ -129,7 +129,7 @@ public final class PropertyTest {
     }
 
     private static void fencesHold() {
-        FencedModules x = new FencedModules();
+        Fenced x = new Fenced();
         int[] code = new int[256];
         for (int k = 0; k < 3; k++) {
             x.clear();
@@ -178,7 +178,7 @@ public final class PropertyTest {
     }
 
     /** One of the calls that can be refused: 1 if it was, and then on its twin it is left out. */
-    private static boolean isRefused(FencedModules x, int which, int[] v) {
+    private static boolean isRefused(Fenced x, int which, int[] v) {
         switch (which) {
             case 0:
                 return !x.line(v[0], v[1], v[2], v[3]);
@@ -222,8 +222,8 @@ public final class PropertyTest {
     }
 
     private static void refusedCallsChangeNothing() {
-        FencedModules x = new FencedModules();
-        FencedModules twin = new FencedModules();
+        Fenced x = new Fenced();
+        Fenced twin = new Fenced();
         for (int n = 0; n < 200; n++) {
             int which = oneOf(0, 0, 0, 1, 1, 2, 3, 3, 4, 4, 5, 6, 6, 7, below(8) == 0 ? 8 : 6);
             int[] values = argumentsOf(which);
@@ -242,7 +242,7 @@ public final class PropertyTest {
 
     /** An exception would end the test with another exit code than 0. */
     private static void wildCalls() {
-        FencedModules x = new FencedModules();
+        Fenced x = new Fenced();
         for (int n = 0; n < 512; n++) {
             int which = below(12);
             if (which < 9) {

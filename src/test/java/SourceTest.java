@@ -22,7 +22,7 @@ public final class SourceTest {
     }
 
     private static void newObject() {
-        FencedModules x = new FencedModules();
+        Fenced x = new Fenced();
         check.same("module(-1) of a new object", x.module(-1), 0);
         for (int k = 0; k < 3; k++) {
             check.same("state of a new object", x.state(k), 0);
@@ -45,7 +45,7 @@ public final class SourceTest {
     }
 
     private static void lineTakesItsRanges() {
-        FencedModules x = new FencedModules();
+        Fenced x = new Fenced();
         int[][] good = {{0, 0, 0, 0}, {15, 7, 7, Check.MOST_I}, {15, 7, 7, Check.LEAST_I}, {1, 0, 7, 5}};
         for (int[] f : good) {
             check.yes("line within its ranges", x.line(f[0], f[1], f[2], f[3]));
@@ -53,7 +53,7 @@ public final class SourceTest {
         int[][] bad = {{-1, 0, 0, 0}, {16, 0, 0, 0}, {0, -1, 0, 0}, {0, 8, 0, 0}, {0, 0, -1, 0}, {0, 0, 8, 0},
             {0, 0, 0, Check.MOST_I + 1}, {0, 0, 0, Check.LEAST_I - 1},
             {Integer.MAX_VALUE, 0, 0, 0}, {0, Integer.MIN_VALUE, 0, 0}, {0, 0, 0, Integer.MIN_VALUE}};
-        FencedModules y = new FencedModules();
+        Fenced y = new Fenced();
         for (int[] f : bad) {
             check.no("line outside its ranges", y.line(f[0], f[1], f[2], f[3]));
         }
@@ -61,7 +61,7 @@ public final class SourceTest {
     }
 
     private static void lineRefusesTheTwentyFifth() {
-        FencedModules x = new FencedModules();
+        Fenced x = new Fenced();
         for (int n = 0; n < 24; n++) {
             check.yes("line " + n, x.line(Check.SET, 0, 0, n));
         }
@@ -73,7 +73,7 @@ public final class SourceTest {
     }
 
     private static void markSetsEachLabelOnce() {
-        FencedModules x = new FencedModules();
+        Fenced x = new Fenced();
         for (int n = 0; n < 8; n++) {
             check.yes("mark", x.mark(n));
             check.no("mark again", x.mark(n));
@@ -91,7 +91,7 @@ public final class SourceTest {
     }
 
     private static void clearForgetsSourceAndModule() {
-        FencedModules x = Check.withLines(Check.SET, 1, 0, 5, Check.GO, 0, 0, 2);
+        Fenced x = Check.withLines(Check.SET, 1, 0, 5, Check.GO, 0, 0, 2);
         x.mark(2);
         check.same("rewrite before clear", x.rewrite(1), 3);
         x.clear();
@@ -103,7 +103,7 @@ public final class SourceTest {
     }
 
     private static void clearLeavesTheRest() {
-        FencedModules x = Check.loaded(1, Check.SET, 1, 0, 5, Check.HOST, 0, 0, Check.OUT, Check.HOST, 0, 0, Check.EXIT);
+        Fenced x = Check.loaded(1, Check.SET, 1, 0, 5, Check.HOST, 0, 0, Check.OUT, Check.HOST, 0, 0, Check.EXIT);
         x.run(2);
         x.follow(1, 10);
         String module = Check.module(x);
@@ -114,7 +114,7 @@ public final class SourceTest {
     }
 
     private static void rewriteOfPlainLines() {
-        FencedModules x = Check.withLines(
+        Fenced x = Check.withLines(
             Check.TRAP, 0, 0, 0, Check.SET, 4, 0, -3, Check.COPY, 1, 2, Check.MOST_I, Check.ADD, 3, 4, 0,
             Check.SUB, 0, 1, 0, Check.XOR, 2, 2, 0, Check.AND, 1, 0, Check.LEAST_I, Check.OR, 4, 3, -1, Check.HOST, 0, 0, 6);
         for (int k = 0; k < 3; k++) {
@@ -127,7 +127,7 @@ public final class SourceTest {
     }
 
     private static void rewriteOfUnusedFields() {
-        FencedModules x = Check.withLines(
+        Fenced x = Check.withLines(
             Check.TRAP, 7, 7, 99, Check.SET, 1, 7, 4, Check.ADD, 1, 2, 77, Check.SUB, 1, 2, -1, Check.XOR, 1, 2, 5,
             Check.GO, 7, 7, 0, Check.JUMP, 3, 7, 88, Check.HOST, 7, 6, 2, Check.LABEL, 2, 7, 0);
         x.mark(0);
@@ -139,7 +139,7 @@ public final class SourceTest {
     }
 
     private static void rewriteOfMemoryAndJumps() {
-        FencedModules x = Check.withLines(Check.LOAD, 4, 3, -7, Check.STORE, 2, 1, 9, Check.JUMP, 4, 0, 0);
+        Fenced x = Check.withLines(Check.LOAD, 4, 3, -7, Check.STORE, 2, 1, 9, Check.JUMP, 4, 0, 0);
         for (int k = 0; k < 3; k++) {
             check.same("rewrite of accesses", x.rewrite(k), 12);
             check.sameText("words of accesses", Check.module(x), Check.text(
@@ -151,7 +151,7 @@ public final class SourceTest {
     }
 
     private static void rewriteOfLabels() {
-        FencedModules x = new FencedModules();
+        Fenced x = new Fenced();
         Check.lines(x, Check.LOAD, 0, 0, 0);
         x.mark(0);
         Check.lines(x, Check.BEQ, 1, 2, 7, Check.BLT, 3, 4, 0, Check.JUMP, 1, 0, 0, Check.GO, 0, 0, 0);
@@ -169,7 +169,7 @@ public final class SourceTest {
     }
 
     private static void rewriteOfLabelsAtTheEdges() {
-        FencedModules x = new FencedModules();
+        Fenced x = new Fenced();
         x.mark(0);
         x.mark(1);
         Check.lines(x, Check.GO, 0, 0, 2, Check.LABEL, 0, 0, 2, Check.GO, 0, 0, 0, Check.LABEL, 1, 0, 1);
@@ -184,11 +184,11 @@ public final class SourceTest {
             boolean usesB = op >= 2 && op <= 11;
             boolean usesA = usesB || op == 1 || op == 13 || op == 15;
             for (int r = 0; r < 8; r++) {
-                FencedModules x = Check.withLines(op, r, 0, 0);
+                Fenced x = Check.withLines(op, r, 0, 0);
                 x.mark(0);
                 check.same("rewrite with op " + op + " and a " + r, x.rewrite(0) == -1 ? 1 : 0, usesA && r > 4 ? 1 : 0);
                 check.same("follow with op " + op + " and a " + r, x.follow(0, 0), usesA && r > 4 ? -1 : 0);
-                FencedModules y = Check.withLines(op, 0, r, 0);
+                Fenced y = Check.withLines(op, 0, r, 0);
                 y.mark(0);
                 check.same("rewrite with op " + op + " and b " + r, y.rewrite(0) == -1 ? 1 : 0, usesB && r > 4 ? 1 : 0);
                 check.same("follow with op " + op + " and b " + r, y.follow(0, 0), usesB && r > 4 ? -1 : 0);
@@ -200,13 +200,13 @@ public final class SourceTest {
         int[] wrong = {-1, 1, 8, 1024, Check.MOST_I, Check.LEAST_I};
         for (int op : new int[] {Check.BEQ, Check.BLT, Check.GO, Check.LABEL}) {
             for (int i : wrong) {
-                FencedModules x = Check.withLines(op, 0, 0, i);
+                Fenced x = Check.withLines(op, 0, 0, i);
                 x.mark(0);
                 x.mark(7);
                 check.same("rewrite with op " + op + " to label " + i, x.rewrite(0), -1);
                 check.same("follow with op " + op + " to label " + i, x.follow(0, 1), -1);
             }
-            FencedModules y = Check.withLines(op, 0, 0, 7);
+            Fenced y = Check.withLines(op, 0, 0, 7);
             y.mark(7);
             check.same("rewrite to label 7", y.rewrite(0), 2);
         }
@@ -217,13 +217,13 @@ public final class SourceTest {
             check.same("rewrite with host call " + i, Check.withLines(Check.HOST, 0, 0, i).rewrite(2), 2);
         }
         for (int k : new int[] {-1, 3, Integer.MAX_VALUE, Integer.MIN_VALUE}) {
-            check.same("rewrite(" + k + ")", new FencedModules().rewrite(k), -1);
+            check.same("rewrite(" + k + ")", new Fenced().rewrite(k), -1);
         }
         check.same("a label that no line names need not be set", Check.withLines(Check.SET, 0, 0, 5).rewrite(0), 2);
     }
 
     private static void rewriteCountsWords() {
-        FencedModules x = new FencedModules();
+        Fenced x = new Fenced();
         for (int n = 0; n < 7; n++) {
             Check.lines(x, Check.STORE, 0, 0, n);
         }
@@ -234,7 +234,7 @@ public final class SourceTest {
         Check.lines(x, Check.SET, 0, 0, 0);
         check.same("rewrite of 31 words", x.rewrite(0), -1);
         check.same("follow of 31 words", x.follow(0, 5), -1);
-        FencedModules y = new FencedModules();
+        Fenced y = new Fenced();
         for (int n = 0; n < 10; n++) {
             Check.lines(y, Check.JUMP, 0, 0, 0);
         }
@@ -244,7 +244,7 @@ public final class SourceTest {
     }
 
     private static void rewriteKeepsTheModuleWhenRefused() {
-        FencedModules x = Check.withWords(1, 2, 3);
+        Fenced x = Check.withWords(1, 2, 3);
         check.same("rewrite(3)", x.rewrite(3), -1);
         check.sameText("the module after rewrite(3)", Check.module(x), Check.text(1, 2, 3));
         Check.lines(x, Check.SET, 0, 0, 1, Check.SET, 5, 0, 0);
