@@ -9,6 +9,7 @@ public final class EdgesOfMachineTest extends Check {
         test.memory();
         test.words();
         test.running();
+        test.sentence("An object is used for at most 512 calls after it has been made", test::allOfItsCalls);
         test.end();
     }
 
@@ -778,6 +779,20 @@ public final class EdgesOfMachineTest extends Check {
         no("load of a module that is not safe", refused.load(0));
         refused.run(2);
         steps("a refused load does not count", refused, 3, 1, 0);
+    }
+
+    /** 512 calls, most of them the longest runs: what is counted goes far beyond what is kept. */
+    private void allOfItsCalls() {
+        Fenced x = loadedWords(2, w(SET, 1, 0, 0), w(SET, 2, 0, 16), w(HOST, 0, 0, PRINT), w(GO, 0, 0, -4));
+        int runs = 502;
+        for (int n = 0; n < runs; n++) {
+            same("run(500)", x.run(500), 500);
+        }
+        same("outputs", x.output(2, -1), 2000 * runs);
+        same("calls", x.call(2, -1, 0), 125 * runs);
+        same("the latest output", x.output(2, 0), 0);
+        same("the last call that is kept", x.call(2, 15, 2), 16);
+        same("the 512th call", x.state(2), 1);
     }
 
     private void accessesStayInside() {
