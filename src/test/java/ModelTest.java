@@ -5,7 +5,7 @@ import java.util.Random;
 /** Made-up runs of at most 512 calls, each answer held against the model's; the seed is fixed, so the runs stay the same. */
 public final class ModelTest {
     private static final int MOST_CALLS = 512;
-    private static final int RUNS = 4000;
+    private static final int RUNS = 6000;
     private static final int TOLD = 5;
 
     private static final Check check = new Check();
@@ -292,6 +292,12 @@ public final class ModelTest {
                 line(9, 2, oneOf(0, 3, 4), below(16));
             }
             line(14, 0, 0, number);
+            if (once(3)) {
+                line(14, 0, 0, 1);
+            }
+            if (once(5)) {
+                line(oneOf(10, 11), oneOf(1, 2), oneOf(1, 2, 3), 0);
+            }
         }
         if (once(2)) {
             line(12, 0, 0, 0);
@@ -305,6 +311,9 @@ public final class ModelTest {
         }
         for (int n = below(6); n >= 0; n--) {
             run(once(4) ? steps(500) : 1 + below(7));
+            for (int more = once(6) ? below(13) : 0; more > 0; more--) {
+                feed(k, number());
+            }
             askMuch(5);
         }
         follow(k, 300);
